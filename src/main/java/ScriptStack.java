@@ -13,10 +13,10 @@ public final class ScriptStack {
     private final Row out;
     private final Row firstScript;
     private final Row secondScript;
-    private final Sha256 hasher;
-    private final Signer signer;
-    private final Elements stack;
     private final Runner runner;
+    private final Elements stack;
+    private final Signer signer;
+    private final Sha256 hasher;
     private boolean nothingFailed;
 
     /** Promise 1. */
@@ -25,10 +25,10 @@ public final class ScriptStack {
         out = new Row(HASH_SIZE);
         firstScript = new Row(SCRIPT_LIMIT);
         secondScript = new Row(SCRIPT_LIMIT);
-        hasher = new Sha256();
-        signer = new Signer(hasher);
-        stack = new Elements();
-        runner = new Runner(stack, hasher, signer);
+        runner = new Runner();
+        stack = runner.stack;
+        signer = runner.signer;
+        hasher = signer.hasher;
         // before the first run there is nothing to tell, just as after a failure
         nothingFailed = false;
     }
@@ -283,11 +283,11 @@ public final class ScriptStack {
         final byte[] message;
         /** Its first SIGNATURE_SIZE bytes are the SIGNATURE that was made last. */
         final byte[] made;
+        final Sha256 hasher;
         private final byte[] text;
-        private final Sha256 hasher;
 
-        Signer(Sha256 hasher) {
-            this.hasher = hasher;
+        Signer() {
+            hasher = new Sha256();
             message = new byte[HASH_SIZE];
             made = new byte[HASH_SIZE];
             text = new byte[KEY_LIMIT + HASH_SIZE];
@@ -492,15 +492,15 @@ public final class ScriptStack {
         private static final int ONE = 102, MANY = 103;
         private static final int MOST_KEYS = 8;
 
-        private final Elements stack;
+        final Elements stack;
+        final Signer signer;
         private final Sha256 hasher;
-        private final Signer signer;
         private final Branches branches;
 
-        Runner(Elements stack, Sha256 hasher, Signer signer) {
-            this.stack = stack;
-            this.hasher = hasher;
-            this.signer = signer;
+        Runner() {
+            stack = new Elements();
+            signer = new Signer();
+            hasher = signer.hasher;
             branches = new Branches();
         }
 
@@ -535,7 +535,7 @@ public final class ScriptStack {
                 branches.enter(false);
                 return true;
             }
-            branches.enter(stack.isTrue(stack.count - 1) == (code == IF));
+            branches.enter(stack.isTrue(stack.count - 1) != (code == UNLESS));
             return stack.drop(1);
         }
 

@@ -266,6 +266,7 @@ public final class PromiseTest {
         due("no element", loaded(bytes(), bytes()).run(0) ? 1 : 0, 0);
         due("an empty one", loaded(bytes(), bytes(0)).run(0) ? 1 : 0, 0);
         due("zeros alone", loaded(bytes(), bytes(3, 0, 0, 0)).run(0) ? 1 : 0, 0);
+        due("what stood behind it before", loaded(bytes(2, 0, 7, DROP), bytes(1, 0)).run(0) ? 1 : 0, 0);
         due("a last byte", loaded(bytes(), bytes(3, 0, 0, 1)).run(0) ? 1 : 0, 1);
         due("a high bit alone", loaded(bytes(), bytes(3, 0, 128, 0)).run(0) ? 1 : 0, 1);
         due("the last one counts", loaded(bytes(), bytes(ONE, 0)).run(0) ? 1 : 0, 0);
@@ -463,6 +464,7 @@ public final class PromiseTest {
         left("a signature of 9 bytes",
             loaded(push(Arrays.copyOf(hash(join(key, new byte[32])), 9)), bytes(1, 1, 1, 4, 1, 1, MANY)), number(0));
 
+        left("n is no KEY", loaded(push(signature(bytes(1), new byte[32])), bytes(1, 1, 1, 4, 1, 1, MANY)), number(0));
         fails("no n", bytes(MANY));
         fails("n alone", bytes(0, MANY));
         fails("n is -1", bytes(0, 0, 1, 255, MANY));
