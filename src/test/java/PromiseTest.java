@@ -1,17 +1,7 @@
-import java.security.MessageDigest;
-import java.security.NoSuchAlgorithmException;
 import java.util.Arrays;
 
 /** For each promise of the document: ordinary inputs, the edges that it names, and wrong inputs. */
-public final class PromiseTest {
-    private static final int REFUSED = -1, NONE = -2, FULL = -3;
-    private static final int DUP = 80, DROP = 81, SWAP = 82, OVER = 83, SIZE = 85, EQUAL = 86, VERIFY = 87,
-        NOT = 88, ADD = 89, SUB = 90, LESS = 91, AND = 92, SHA = 93, HASH = 94, SIGNED = 95, AFTER = 96,
-        IF = 97, UNLESS = 98, ELSE = 99, END = 100, ONE = 102, MANY = 103;
-
-    private static int wrong = 0;
-    private static int promise = 0;
-
+public final class PromiseTest extends Checks {
     public static void main(String[] args) {
         newObject();
         feed();
@@ -35,147 +25,22 @@ public final class PromiseTest {
         sign();
         back();
         octet();
-        System.out.println(wrong == 0 ? "all promises hold" : wrong + " answers are not as due");
-        if (wrong != 0) {
-            System.exit(1);
-        }
-    }
-
-    // ---- helpers
-
-    private static void due(String what, long got, long want) {
-        if (got != want) {
-            wrong++;
-            System.out.println("promise " + promise + ": " + what + " answered " + got + ", due is " + want);
-        }
-    }
-
-    private static byte[] bytes(int... values) {
-        byte[] all = new byte[values.length];
-        for (int i = 0; i < values.length; i++) {
-            all[i] = (byte) values[i];
-        }
-        return all;
-    }
-
-    private static byte[] join(byte[]... parts) {
-        int size = 0;
-        for (byte[] part : parts) {
-            size += part.length;
-        }
-        byte[] all = new byte[size];
-        int at = 0;
-        for (byte[] part : parts) {
-            System.arraycopy(part, 0, all, at, part.length);
-            at += part.length;
-        }
-        return all;
-    }
-
-    private static byte[] push(byte[] element) {
-        return join(bytes(element.length), element);
-    }
-
-    private static byte[] filled(int size, int value) {
-        byte[] all = new byte[size];
-        Arrays.fill(all, (byte) value);
-        return all;
-    }
-
-    private static byte[] sha256(byte[] input) {
-        try {
-            return MessageDigest.getInstance("SHA-256").digest(input);
-        } catch (NoSuchAlgorithmException e) {
-            throw new IllegalStateException(e);
-        }
-    }
-
-    private static byte[] hash(byte[] input) {
-        return sha256(sha256(input));
-    }
-
-    private static byte[] signature(byte[] key, byte[] message) {
-        return Arrays.copyOf(hash(join(key, message)), 8);
-    }
-
-    /** Puts bytes on an empty TAPE of at most 380. */
-    private static void tape(ScriptStack x, byte[] input) {
-        byte[] padded = Arrays.copyOf(input, (input.length / 20 + 1) * 20);
-        int[] w = new int[padded.length / 4];
-        for (int i = 0; i < padded.length; i++) {
-            w[i / 4] = w[i / 4] << 8 | padded[i] & 255;
-        }
-        for (int i = 0; i < w.length; i += 5) {
-            x.feed(w[i], w[i + 1], w[i + 2], w[i + 3], w[i + 4]);
-        }
-        x.end(input.length);
-    }
-
-    private static ScriptStack loaded(byte[] first, byte[] second) {
-        ScriptStack x = new ScriptStack();
-        tape(x, first);
-        x.script(0);
-        tape(x, second);
-        x.script(1);
-        return x;
-    }
-
-    private static boolean holds(ScriptStack x, int k, byte[] want) {
-        boolean same = x.element(k, -1) == want.length;
-        for (int i = 0; i < want.length; i++) {
-            same &= x.element(k, i) == (want[i] & 255);
-        }
-        return same && x.element(k, want.length) == NONE;
-    }
-
-    private static void left(String what, byte[] second, byte[]... elements) {
-        left(what, loaded(bytes(), second), elements);
-    }
-
-    private static void left(String what, ScriptStack x, byte[]... elements) {
-        boolean truth = false;
-        if (elements.length > 0) {
-            for (byte b : elements[elements.length - 1]) {
-                truth |= b != 0;
-            }
-        }
-        due(what + ": run", x.run(0) ? 1 : 0, truth ? 1 : 0);
-        due(what + ": depth", x.depth(), elements.length);
-        for (int k = 0; k < elements.length; k++) {
-            due(what + ": element " + k + " as due", holds(x, k, elements[k]) ? 1 : 0, 1);
-        }
-    }
-
-    private static void fails(String what, byte[] second) {
-        fails(what, loaded(bytes(), second));
-    }
-
-    private static void fails(String what, ScriptStack x) {
-        due(what + ": run", x.run(0) ? 1 : 0, 0);
-        due(what + ": depth", x.depth(), NONE);
-        due(what + ": element(0, -1)", x.element(0, -1), NONE);
-        due(what + ": element(0, 0)", x.element(0, 0), NONE);
-    }
-
-    private static byte[] number(int n) {
-        return n == 0 ? bytes() : bytes(n >>> 24, n >>> 16, n >>> 8, n);
+        finish("all promises hold");
     }
 
     private static void reckons(String what, int code, byte[] a, byte[] b, int want) {
         left(what, join(push(a), push(b), bytes(code)), number(want));
     }
 
-    // ---- the promises
-
     private static void newObject() {
-        promise = 1;
+        about("promise 1");
         ScriptStack x = new ScriptStack();
         due("end(1)", x.end(1), REFUSED);
         due("end(0)", x.end(0), 0);
         due("octet(0)", x.octet(0), NONE);
         due("depth()", x.depth(), NONE);
         due("element(0, -1)", x.element(0, -1), NONE);
-        due("run(0)", x.run(0) ? 1 : 0, 0);
+        due("run(0)", x.run(0), false);
         due("depth()", x.depth(), 0);
         due("back()", x.back(), 1);
         ScriptStack other = new ScriptStack();
@@ -183,7 +48,7 @@ public final class PromiseTest {
     }
 
     private static void feed() {
-        promise = 2;
+        about("promise 2");
         ScriptStack x = new ScriptStack();
         due("feed", x.feed(0x01020304, 0x05060708, 0x090a0b0c, 0x0d0e0f10, 0xfffefdfc), 20);
         x.sha();
@@ -204,7 +69,7 @@ public final class PromiseTest {
     }
 
     private static void end() {
-        promise = 3;
+        about("promise 3");
         ScriptStack x = new ScriptStack();
         x.feed(0x61626364, 0, 0, 0, 0);
         due("end(21)", x.end(21), REFUSED);
@@ -220,7 +85,7 @@ public final class PromiseTest {
     }
 
     private static void script() {
-        promise = 4;
+        about("promise 4");
         ScriptStack x = new ScriptStack();
         tape(x, filled(80, ONE));
         due("script(2)", x.script(2), REFUSED);
@@ -234,7 +99,7 @@ public final class PromiseTest {
         x.end(2);
         due("script(0) of 2", x.script(0), 2);
         due("script(1) of 0", x.script(1), 0);
-        due("run", x.run(0) ? 1 : 0, 1);
+        due("run", x.run(0), true);
         due("nothing of the older script is left", x.depth(), 2);
         tape(x, bytes(ADD));
         due("script(1)", x.script(1), 1);
@@ -244,7 +109,7 @@ public final class PromiseTest {
     }
 
     private static void message() {
-        promise = 5;
+        about("promise 5");
         ScriptStack x = new ScriptStack();
         byte[] key = bytes(1, 2, 3);
         for (int size : new int[] {0, 1, 55, 56, 63, 64, 65, 119, 120, 380}) {
@@ -254,31 +119,28 @@ public final class PromiseTest {
             due("the tape is empty", x.end(1), REFUSED);
             tape(x, key);
             x.sign();
-            byte[] want = signature(key, hash(text));
-            for (int i = 0; i < 8; i++) {
-                due("octet(" + i + ") for " + size, x.octet(i), want[i] & 255);
-            }
+            outHas("for " + size, x, signature(key, hash(text)));
         }
     }
 
     private static void runAndItsEnds() {
-        promise = 6;
-        due("no element", loaded(bytes(), bytes()).run(0) ? 1 : 0, 0);
-        due("an empty one", loaded(bytes(), bytes(0)).run(0) ? 1 : 0, 0);
-        due("zeros alone", loaded(bytes(), bytes(3, 0, 0, 0)).run(0) ? 1 : 0, 0);
-        due("what stood behind it before", loaded(bytes(2, 0, 7, DROP), bytes(1, 0)).run(0) ? 1 : 0, 0);
-        due("a last byte", loaded(bytes(), bytes(3, 0, 0, 1)).run(0) ? 1 : 0, 1);
-        due("a high bit alone", loaded(bytes(), bytes(3, 0, 128, 0)).run(0) ? 1 : 0, 1);
-        due("the last one counts", loaded(bytes(), bytes(ONE, 0)).run(0) ? 1 : 0, 0);
-        due("script 0 alone", loaded(bytes(ONE), bytes()).run(0) ? 1 : 0, 1);
+        about("promise 6");
+        due("no element", loaded(bytes(), bytes()).run(0), false);
+        due("an empty one", loaded(bytes(), bytes(0)).run(0), false);
+        due("zeros alone", loaded(bytes(), bytes(3, 0, 0, 0)).run(0), false);
+        due("what stood behind it before", loaded(bytes(2, 0, 7, DROP), bytes(1, 0)).run(0), false);
+        due("a last byte", loaded(bytes(), bytes(3, 0, 0, 1)).run(0), true);
+        due("a high bit alone", loaded(bytes(), bytes(3, 0, 128, 0)).run(0), true);
+        due("the last one counts", loaded(bytes(), bytes(ONE, 0)).run(0), false);
+        due("script 0 alone", loaded(bytes(ONE), bytes()).run(0), true);
         ScriptStack x = loaded(bytes(ONE), bytes(ONE));
         x.run(0);
-        due("a second run", x.run(0) ? 1 : 0, 1);
+        due("a second run", x.run(0), true);
         due("begins with no element", x.depth(), 2);
     }
 
     private static void runPushes() {
-        promise = 6;
+        about("promise 6");
         left("0", bytes(0), bytes());
         left("2", bytes(2, 9, 255), bytes(9, 255));
         left("75", push(filled(75, 200)), filled(75, 200));
@@ -286,19 +148,13 @@ public final class PromiseTest {
         fails("75 with 74", join(bytes(75), filled(74, 1)));
         fails("1 with none", bytes(1));
         fails("bytes of script 1 do not count for script 0", loaded(bytes(ONE, 1), bytes(1, 1)));
-        left("24 pushes", filled(24, 0), filledRows(24));
+        left("24 pushes", filled(24, 0), rows(24, bytes()));
         fails("25 pushes", filled(25, 0));
         fails("25 ones", filled(25, ONE));
     }
 
-    private static byte[][] filledRows(int count) {
-        byte[][] rows = new byte[count][];
-        Arrays.fill(rows, bytes());
-        return rows;
-    }
-
     private static void runStackCodes() {
-        promise = 6;
+        about("promise 6");
         left("DUP", bytes(2, 7, 8, DUP), bytes(7, 8), bytes(7, 8));
         fails("DUP of none", bytes(DUP));
         fails("DUP on 24", join(filled(24, ONE), bytes(DUP)));
@@ -307,7 +163,7 @@ public final class PromiseTest {
         left("SWAP", bytes(1, 5, 3, 7, 8, 9, 1, 6, SWAP), bytes(5), bytes(6), bytes(7, 8, 9));
         left("SWAP of 75 and 2", join(push(filled(75, 3)), bytes(0, SWAP)), bytes(), filled(75, 3));
         fails("SWAP of one", bytes(ONE, SWAP));
-        left("SWAP on 24", join(filled(23, 0), bytes(ONE, SWAP, DROP, VERIFY, ONE)), concat(filledRows(22), number(1)));
+        left("SWAP on 24", join(filled(23, 0), bytes(ONE, SWAP, DROP, VERIFY, ONE)), rows(22, bytes(), number(1)));
         left("OVER", bytes(2, 7, 8, 1, 9, OVER), bytes(7, 8), bytes(9), bytes(7, 8));
         fails("OVER of one", bytes(ONE, OVER));
         fails("OVER on 24", join(filled(24, ONE), bytes(OVER)));
@@ -318,14 +174,8 @@ public final class PromiseTest {
         fails("SIZE on 24", join(filled(24, ONE), bytes(SIZE)));
     }
 
-    private static byte[][] concat(byte[][] rows, byte[] last) {
-        byte[][] all = Arrays.copyOf(rows, rows.length + 1);
-        all[rows.length] = last;
-        return all;
-    }
-
     private static void runNumbers() {
-        promise = 6;
+        about("promise 6");
         left("ONE", bytes(ONE), bytes(0, 0, 0, 1));
         reckons("3 + 4", ADD, bytes(3), bytes(4), 7);
         reckons("-1 + 1", ADD, bytes(255), bytes(1), 0);
@@ -360,7 +210,7 @@ public final class PromiseTest {
     }
 
     private static void runTruths() {
-        promise = 6;
+        about("promise 6");
         left("EQUAL", bytes(2, 1, 2, 2, 1, 2, EQUAL), number(1));
         left("EQUAL of other bytes", bytes(2, 1, 2, 2, 1, 3, EQUAL), number(0));
         left("EQUAL of other sizes", bytes(1, 1, 2, 1, 0, EQUAL), number(0));
@@ -382,7 +232,7 @@ public final class PromiseTest {
     }
 
     private static void runHashes() {
-        promise = 6;
+        about("promise 6");
         for (int size : new int[] {0, 1, 3, 54, 55, 56, 63, 64, 75}) {
             byte[] text = filled(size, 250 - size);
             left("SHA of " + size, join(bytes(1, 9), push(text), bytes(SHA)), bytes(9), sha256(text));
@@ -390,11 +240,11 @@ public final class PromiseTest {
         }
         fails("SHA of none", bytes(SHA));
         fails("HASH of none", bytes(HASH));
-        left("SHA on 24", join(filled(24, 0), bytes(SHA)), concat(filledRows(23), sha256(bytes())));
+        left("SHA on 24", join(filled(24, 0), bytes(SHA)), rows(23, bytes(), sha256(bytes())));
     }
 
     private static void runSigned() {
-        promise = 6;
+        about("promise 6");
         byte[] zeros = new byte[32];
         byte[] key = bytes(7, 7, 9);
         byte[] good = signature(key, zeros);
@@ -424,21 +274,8 @@ public final class PromiseTest {
         left("for a message", x, number(1));
     }
 
-    /** MANY on n KEYS, (key i is one byte, i + 1), and the SIGNATURES of the keys named. */
-    private static ScriptStack many(int n, int... signers) {
-        byte[] first = bytes();
-        for (int signer : signers) {
-            first = join(first, push(signature(bytes(signer + 1), new byte[32])));
-        }
-        byte[] second = bytes(1, signers.length);
-        for (int key = 0; key < n; key++) {
-            second = join(second, bytes(1, key + 1));
-        }
-        return loaded(first, join(second, bytes(1, n, MANY)));
-    }
-
     private static void runMany() {
-        promise = 6;
+        about("promise 6");
         left("0 of 0", many(0), number(1));
         left("0 of 0, empty numbers", bytes(0, 0, MANY), number(1));
         left("0 of 3", many(3), number(1));
@@ -459,12 +296,12 @@ public final class PromiseTest {
         left("what is below stays", bytes(1, 9, 0, 0, MANY), bytes(9), number(1));
 
         byte[] key = bytes(4);
-        byte[] twice = push(signature(key, new byte[32]));
+        byte[] twice = push(signature(key));
         left("a KEY that stands twice", loaded(join(twice, twice), bytes(1, 2, 1, 4, 1, 4, 1, 2, MANY)), number(1));
         left("a signature of 9 bytes",
             loaded(push(Arrays.copyOf(hash(join(key, new byte[32])), 9)), bytes(1, 1, 1, 4, 1, 1, MANY)), number(0));
 
-        left("n is no KEY", loaded(push(signature(bytes(1), new byte[32])), bytes(1, 1, 1, 4, 1, 1, MANY)), number(0));
+        left("n is no KEY", loaded(push(signature(bytes(1))), bytes(1, 1, 1, 4, 1, 1, MANY)), number(0));
         fails("no n", bytes(MANY));
         fails("n alone", bytes(0, MANY));
         fails("n is -1", bytes(0, 0, 1, 255, MANY));
@@ -477,32 +314,32 @@ public final class PromiseTest {
         fails("a KEY lacks, and m", bytes(1, 7, 1, 2, MANY));
         fails("m lacks", bytes(1, 7, 1, 1, MANY));
         fails("a SIGNATURE lacks", bytes(1, 1, 1, 7, 1, 1, MANY));
-        left("on 24", join(filled(22, 0), bytes(0, 0, MANY)), concat(filledRows(22), number(1)));
+        left("on 24", join(filled(22, 0), bytes(0, 0, MANY)), rows(22, bytes(), number(1)));
     }
 
     private static void runAfter() {
-        promise = 6;
+        about("promise 6");
         ScriptStack x = loaded(bytes(ONE), bytes(1, 9, AFTER));
-        due("run(8)", x.run(8) ? 1 : 0, 0);
+        due("run(8)", x.run(8), false);
         due("depth()", x.depth(), NONE);
-        due("run(9)", x.run(9) ? 1 : 0, 1);
+        due("run(9)", x.run(9), true);
         due("depth()", x.depth(), 1);
-        due("run(10)", x.run(10) ? 1 : 0, 1);
-        due("run(-10)", x.run(-10) ? 1 : 0, 0);
-        due("run(MIN)", x.run(Integer.MIN_VALUE) ? 1 : 0, 0);
-        due("run(MAX)", x.run(Integer.MAX_VALUE) ? 1 : 0, 1);
+        due("run(10)", x.run(10), true);
+        due("run(-10)", x.run(-10), false);
+        due("run(MIN)", x.run(Integer.MIN_VALUE), false);
+        due("run(MAX)", x.run(Integer.MAX_VALUE), true);
         ScriptStack below = loaded(bytes(ONE), bytes(1, 255, AFTER));
-        due("-1 AFTER -1", below.run(-1) ? 1 : 0, 1);
-        due("-2 AFTER -1", below.run(-2) ? 1 : 0, 0);
+        due("-1 AFTER -1", below.run(-1), true);
+        due("-2 AFTER -1", below.run(-2), false);
         ScriptStack both = loaded(bytes(1, 9, AFTER), bytes(ONE));
-        due("AFTER in script 0, 8", both.run(8) ? 1 : 0, 0);
-        due("AFTER in script 0, 9", both.run(9) ? 1 : 0, 1);
+        due("AFTER in script 0, 8", both.run(8), false);
+        due("AFTER in script 0, 9", both.run(9), true);
         fails("AFTER of none", bytes(AFTER, ONE));
         fails("AFTER of 5 bytes", bytes(ONE, 5, 0, 0, 0, 0, 0, AFTER));
     }
 
     private static void runBranches() {
-        promise = 6;
+        about("promise 6");
         byte[] a = bytes(5);
         byte[] b = bytes(6);
         left("IF true", bytes(ONE, IF, 1, 5, ELSE, 1, 6, END), a);
@@ -542,11 +379,11 @@ public final class PromiseTest {
         tape(x, bytes(1, 5));
         x.script(1);
         left("a run after one that was left open", x, a);
-        left("a full stack, passed over", join(filled(24, 0), bytes(IF, 0, 0, 0, ONE, END, ONE)), concat(filledRows(23), number(1)));
+        left("a full stack, passed over", join(filled(24, 0), bytes(IF, 0, 0, 0, ONE, END, ONE)), rows(23, bytes(), number(1)));
     }
 
     private static void runOtherCodes() {
-        promise = 6;
+        about("promise 6");
         for (int code = 76; code < 256; code++) {
             if (code < DUP || code == 84 || code == 101 || code > MANY) {
                 fails("code " + code, bytes(ONE, ONE, ONE, code));
@@ -557,7 +394,7 @@ public final class PromiseTest {
     }
 
     private static void depth() {
-        promise = 7;
+        about("promise 7");
         ScriptStack x = new ScriptStack();
         due("before the first run", x.depth(), NONE);
         x.run(0);
@@ -577,7 +414,7 @@ public final class PromiseTest {
     }
 
     private static void element() {
-        promise = 8;
+        about("promise 8");
         ScriptStack x = new ScriptStack();
         due("before the first run", x.element(0, -1), NONE);
         tape(x, bytes(3, 1, 128, 255, 0));
@@ -609,42 +446,26 @@ public final class PromiseTest {
     }
 
     private static void sha() {
-        promise = 9;
-        ScriptStack x = new ScriptStack();
-        for (int size : new int[] {0, 1, 3, 55, 56, 57, 63, 64, 65, 118, 119, 120, 128, 200, 380}) {
+        about("promise 9");
+        for (int size : new int[] {0, 1, 3, 55, 56, 57, 63, 64, 65, 118, 119, 120, 128, 200, 380, 400}) {
+            ScriptStack x = new ScriptStack();
             byte[] text = filled(size, size);
             tape(x, text);
             due("sha() of " + size, x.sha(), 32);
             due("the tape is empty", x.end(1), REFUSED);
-            byte[] want = sha256(text);
-            for (int i = 0; i < 32; i++) {
-                due("octet(" + i + ") for " + size, x.octet(i), want[i] & 255);
-            }
+            outHas("of " + size, x, sha256(text));
         }
-        for (int i = 0; i < 20; i++) {
-            x.feed(i, i, i, i, i);
-        }
-        byte[] full = new byte[400];
-        for (int i = 0; i < 100; i++) {
-            full[4 * i + 3] = (byte) (i / 5);
-        }
-        due("sha() of 400", x.sha(), 32);
-        due("octet(31) for 400", x.octet(31), sha256(full)[31] & 255);
     }
 
     private static void sign() {
-        promise = 10;
+        about("promise 10");
         ScriptStack x = new ScriptStack();
         for (int size : new int[] {0, 1, 23, 24, 31, 32, 79, 80}) {
             byte[] key = filled(size, size + 100);
             tape(x, key);
             due("sign() of " + size, x.sign(), 8);
             due("the tape is empty", x.end(1), REFUSED);
-            byte[] want = signature(key, new byte[32]);
-            for (int i = 0; i < 8; i++) {
-                due("octet(" + i + ") for " + size, x.octet(i), want[i] & 255);
-            }
-            due("octet(8)", x.octet(8), NONE);
+            outHas("of " + size, x, signature(key));
         }
         int before = x.octet(0);
         tape(x, filled(81, 1));
@@ -652,13 +473,13 @@ public final class PromiseTest {
         due("the tape stays", x.end(81), 81);
         due("OUT stays", x.octet(0), before);
         x.sha();
-        due("32 bytes of sha", x.octet(31) == NONE ? 1 : 0, 0);
+        due("32 bytes of sha", x.octet(31) == NONE, false);
         x.sign();
         due("8 bytes again", x.octet(8), NONE);
     }
 
     private static void back() {
-        promise = 11;
+        about("promise 11");
         ScriptStack x = new ScriptStack();
         due("back() of nothing", x.back(), 1);
         due("again", x.back(), 2);
@@ -667,7 +488,7 @@ public final class PromiseTest {
         due("two bytes 0 were on the tape", x.depth(), 2);
         tape(x, bytes(9));
         x.sign();
-        byte[] made = signature(bytes(9), new byte[32]);
+        byte[] made = signature(bytes(9));
         tape(x, bytes(1, 7));
         due("back() of 8 bytes", x.back(), 11);
         x.script(0);
@@ -693,7 +514,7 @@ public final class PromiseTest {
     }
 
     private static void octet() {
-        promise = 12;
+        about("promise 12");
         ScriptStack x = new ScriptStack();
         due("of nothing", x.octet(0), NONE);
         due("of nothing, -1", x.octet(-1), NONE);
