@@ -397,6 +397,8 @@ public final class TermsBoundaryTest extends Checks {
             ScriptStack x = loaded(bytes(ONE), join(pushed, bytes(AFTER)));
             due(what + " AFTER, height at it", x.run(row[0]), true);
             due(what + " AFTER, height below it", row[0] != MIN && x.run(row[0] - 1), false);
+            byte[] longer = bytes(6, 7, 7, 7, 7, 7, 7, DROP);
+            left(what + " where a longer one stood", join(longer, pushed, bytes(0, ADD)), number(row[0]));
         }
     }
 
@@ -920,6 +922,7 @@ public final class TermsBoundaryTest extends Checks {
             fails(code + " behind two", bytes(ONE, 0, IF, UNLESS, END, END, code));
             fails(code + " behind SCRIPT 0's", loaded(bytes(ONE, ONE, IF, END), bytes(code)));
             fails(code + " before one", bytes(ONE, code, ONE, IF, END));
+            fails(code + " before one that lacks its END", bytes(ONE, code, ONE, IF));
         }
         left("with one", bytes(ONE, ONE, IF, ELSE, END), number(1));
         left("with two", bytes(ONE, 0, IF, UNLESS, ELSE, END, ELSE, END), number(1));
