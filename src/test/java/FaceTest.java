@@ -5,7 +5,7 @@ import java.lang.reflect.Modifier;
 import java.util.Set;
 import java.util.TreeSet;
 
-/** The class has the document's face and shows no other member. */
+/** The class has the document's face and shows no other member; names and classes inside keep to rule 1. */
 public final class FaceTest {
     private static int wrong = 0;
 
@@ -37,6 +37,8 @@ public final class FaceTest {
         due("REFUSED", ScriptStack.REFUSED, -1);
         due("NONE", ScriptStack.NONE, -2);
         due("FULL", ScriptStack.FULL, -3);
+        due("private methods that bear a public one's name", borrowedNames(), Set.of());
+        due("classes inside that are not static, or show", oddClasses(), Set.of());
         System.out.println(wrong == 0 ? "the face is as due" : wrong + " parts of the face are not as due");
         if (wrong != 0) {
             System.exit(1);
@@ -61,5 +63,40 @@ public final class FaceTest {
             }
         }
         return members;
+    }
+
+    private static Set<String> borrowedNames() {
+        Set<String> shown = new TreeSet<>();
+        for (Method m : ScriptStack.class.getMethods()) {
+            if (m.getDeclaringClass() == ScriptStack.class) {
+                shown.add(m.getName());
+            }
+        }
+        Set<String> borrowed = new TreeSet<>();
+        for (Method m : ScriptStack.class.getDeclaredMethods()) {
+            if (Modifier.isPrivate(m.getModifiers()) && shown.contains(m.getName())) {
+                borrowed.add(m.toString());
+            }
+        }
+        // the rule may be read to bind the classes inside too
+        for (Class<?> inside : ScriptStack.class.getDeclaredClasses()) {
+            for (Method m : inside.getDeclaredMethods()) {
+                if (shown.contains(m.getName())) {
+                    borrowed.add(m.toString());
+                }
+            }
+        }
+        return borrowed;
+    }
+
+    private static Set<String> oddClasses() {
+        Set<String> odd = new TreeSet<>();
+        for (Class<?> inside : ScriptStack.class.getDeclaredClasses()) {
+            int is = inside.getModifiers();
+            if (!Modifier.isStatic(is) || Modifier.isPublic(is) || Modifier.isProtected(is)) {
+                odd.add(inside.getName());
+            }
+        }
+        return odd;
     }
 }
